@@ -281,15 +281,24 @@ public final class MovingExits {
         if (!hall.isTold() || !isAct(act)) {
             return NO_SUCH;
         }
-        return acts.firstLawfulOrNot(act, false);
+        for (int later = act; later < ACTS; later++) {
+            if (!acts.isLawful(later)) {
+                return later;
+            }
+        }
+        return NONE;
     }
 
     public int screws(int act) {
         if (!hall.isTold() || !isAct(act)) {
             return NO_SUCH;
         }
-        int first = acts.firstLawfulOrNot(act, true);
-        return first == NONE ? NONE : first - act;
+        for (int later = act; later < ACTS; later++) {
+            if (acts.isLawful(later)) {
+                return later - act;
+            }
+        }
+        return NONE;
     }
 
     public int lawful() {
@@ -763,21 +772,23 @@ public final class MovingExits {
 
     /** Reads a TAPE token by token, and stops at the first FAULT: all are told left to right. */
     private static final class Reader {
-        static final int END = 0;
-        static final int NO_TOKEN = 1;
-        static final int NUMBER = 2;
-        static final int SEMICOLON = 3;
-        static final int HALL = 4;
-        static final int ROWS = 5;
-        static final int SEATS = 6;
-        static final int LAW = 7;
-        static final int PLACE = 8;
-        static final int TO = 9;
-        static final int THEN = 10;
-        static final int EXIT = 11;
-        static final int WIDE = 12;
-        static final int KING = 13;
-        static final int SITS = 14;
+        static final int END = -1;
+        static final int NO_TOKEN = -2;
+        static final int NUMBER = -3;
+        static final int SEMICOLON = -4;
+        // A word is its letters' numbers (a is 1), five bits each: none of the text's has more than five.
+        static final int LONGEST_WORD = 5;
+        static final int HALL = ((8 * 32 + 1) * 32 + 12) * 32 + 12;
+        static final int ROWS = ((18 * 32 + 15) * 32 + 23) * 32 + 19;
+        static final int SEATS = (((19 * 32 + 5) * 32 + 1) * 32 + 20) * 32 + 19;
+        static final int LAW = (12 * 32 + 1) * 32 + 23;
+        static final int PLACE = (((16 * 32 + 12) * 32 + 1) * 32 + 3) * 32 + 5;
+        static final int TO = 20 * 32 + 15;
+        static final int THEN = ((20 * 32 + 8) * 32 + 5) * 32 + 14;
+        static final int EXIT = ((5 * 32 + 24) * 32 + 9) * 32 + 20;
+        static final int WIDE = ((23 * 32 + 9) * 32 + 4) * 32 + 5;
+        static final int KING = ((11 * 32 + 9) * 32 + 14) * 32 + 7;
+        static final int SITS = ((19 * 32 + 9) * 32 + 20) * 32 + 19;
 
         static final int MISPLACED = 1;
         static final int OUT_OF_BOUNDS = 2;
@@ -809,27 +820,21 @@ public final class MovingExits {
             position = 0;
             advance();
             for (int line = 0; line <= MOST_BYTES && token != END && fault == 0; line++) {
-                if (readLine() && take(SEMICOLON)) {
+                boolean isRead;
+                if (told.lines == 0) {
+                    isRead = readHall();
+                } else if (token == PLACE) {
+                    isRead = readPlace();
+                } else if (token == EXIT) {
+                    isRead = readExit();
+                } else {
+                    isRead = readSits();
+                }
+                if (isRead && take(SEMICOLON)) {
                     told.lines++;
                 }
             }
             return fault == 0;
-        }
-
-        private boolean readLine() {
-            if (told.lines == 0) {
-                return readHall();
-            }
-            switch (token) {
-                case PLACE:
-                    return readPlace();
-                case EXIT:
-                    return readExit();
-                case SITS:
-                    return readSits();
-                default:
-                    return refuse(MISPLACED, tokenPlace);
-            }
         }
 
         private boolean readHall() {
@@ -909,8 +914,10 @@ public final class MovingExits {
             if (!take(TO) || !takeNumber(from, ACTS - 1)) {
                 return false;
             }
-            told.kingFrom[exit] = from;
-            told.kingTo[exit] = number;
+            if (exit >= 0 && exit < MOST_EXITS) {
+                told.kingFrom[exit] = from;
+                told.kingTo[exit] = number;
+            }
             return true;
         }
 
@@ -938,7 +945,7 @@ public final class MovingExits {
             return true;
         }
 
-        /** Leaves the number in number, and where it stood in numberPlace: the token is the next one then. */
+        /** Leaves what it was in number, and where it stood in numberPlace: the token is the next one then. */
         private boolean takeNumber(int least, int most) {
             if (token != NUMBER) {
                 return refuse(MISPLACED, tokenPlace);
@@ -959,14 +966,17 @@ public final class MovingExits {
         }
 
         private void advance() {
-            skipBlanks();
-            tokenPlace = position;
             int sign = tape.byteAt(position);
+            while (position < MOST_BYTES && (sign == 32 || sign == 10)) {
+                position++;
+                sign = tape.byteAt(position);
+            }
+            tokenPlace = position;
             if (sign == NONE) {
                 token = END;
-            } else if (isDigit(sign)) {
+            } else if (sign >= '0' && sign <= '9') {
                 readNumber();
-            } else if (isLetter(sign)) {
+            } else if (sign >= 'a' && sign <= 'z') {
                 readWord();
             } else {
                 token = sign == ';' ? SEMICOLON : NO_TOKEN;
@@ -974,84 +984,30 @@ public final class MovingExits {
             }
         }
 
-        private void skipBlanks() {
-            while (position < MOST_BYTES && isBlank(tape.byteAt(position))) {
-                position++;
-            }
-        }
-
         private void readNumber() {
             token = NUMBER;
             tokenValue = 0;
-            while (position < MOST_BYTES && isDigit(tape.byteAt(position))) {
-                tokenValue = Math.min(GREAT, tokenValue * 10 + tape.byteAt(position) - '0');
+            int sign = tape.byteAt(position);
+            while (position < MOST_BYTES && sign >= '0' && sign <= '9') {
+                tokenValue = Math.min(GREAT, tokenValue * 10 + sign - '0');
                 position++;
+                sign = tape.byteAt(position);
             }
         }
 
         private void readWord() {
-            while (position < MOST_BYTES && isLetter(tape.byteAt(position))) {
-                position++;
-            }
-            token = wordToken();
-        }
-
-        private int wordToken() {
-            if (isWord("hall")) {
-                return HALL;
-            }
-            if (isWord("place")) {
-                return PLACE;
-            }
-            if (isWord("exit")) {
-                return EXIT;
-            }
-            if (isWord("sits")) {
-                return SITS;
-            }
-            if (isWord("to")) {
-                return TO;
-            }
-            if (isWord("then")) {
-                return THEN;
-            }
-            if (isWord("wide")) {
-                return WIDE;
-            }
-            if (isWord("king")) {
-                return KING;
-            }
-            if (isWord("rows")) {
-                return ROWS;
-            }
-            if (isWord("seats")) {
-                return SEATS;
-            }
-            return isWord("law") ? LAW : NO_TOKEN;
-        }
-
-        private boolean isWord(String word) {
-            if (position - tokenPlace != word.length()) {
-                return false;
-            }
-            for (int i = 0; i < word.length(); i++) {
-                if (tape.byteAt(tokenPlace + i) != word.charAt(i)) {
-                    return false;
+            token = 0;
+            int sign = tape.byteAt(position);
+            while (position < MOST_BYTES && sign >= 'a' && sign <= 'z') {
+                if (position - tokenPlace < LONGEST_WORD) {
+                    token = token * 32 + sign - 'a' + 1;
                 }
+                position++;
+                sign = tape.byteAt(position);
             }
-            return true;
-        }
-
-        private static boolean isBlank(int sign) {
-            return sign == 32 || sign == 10;
-        }
-
-        private static boolean isDigit(int sign) {
-            return sign >= '0' && sign <= '9';
-        }
-
-        private static boolean isLetter(int sign) {
-            return sign >= 'a' && sign <= 'z';
+            if (position - tokenPlace > LONGEST_WORD) {
+                token = NO_TOKEN;
+            }
         }
     }
 
@@ -1157,7 +1113,7 @@ public final class MovingExits {
 
         /** Steps from a SEAT to a PLACE, and the one out. */
         int stepsBy(int spot, int place) {
-            if (!hasPlace(place)) {
+            if (place < 0 || place >= places || place >= MOST_PLACES) {
                 return NO_WAY_OUT;
             }
             return Math.abs(spot / SIDE - rowOf[place]) + Math.abs(spot % SIDE - seatOf[place]) + 1;
@@ -1251,6 +1207,7 @@ public final class MovingExits {
         private final int[] goodExit = new int[ACTS * SPOTS];
         private final int[] goodSteps = new int[ACTS * SPOTS];
         private final int[] anyExit = new int[ACTS * SPOTS];
+        private final int[] anySteps = new int[ACTS * SPOTS];
 
         Acts(Hall played) {
             hall = played;
@@ -1288,7 +1245,10 @@ public final class MovingExits {
         }
 
         int placeOf(int exit, int act) {
-            return hall.hasExit(exit) && isAct(act) ? placeIn[act * MOST_EXITS + exit] : 0;
+            if (exit < 0 || exit >= MOST_EXITS || act < 0 || act >= ACTS) {
+                return 0;
+            }
+            return placeIn[act * MOST_EXITS + exit];
         }
 
         int behindOf(int exit, int act) {
@@ -1351,7 +1311,7 @@ public final class MovingExits {
 
         /** The cell of an ACT and a SEAT in the rows of what is nearest. */
         private int paced(int spot, int act) {
-            if (!isAct(act) || spot < 0 || spot >= SPOTS) {
+            if (act < 0 || act >= ACTS || spot < 0 || spot >= SPOTS) {
                 return 0;
             }
             if (!isPaced[act]) {
@@ -1362,35 +1322,34 @@ public final class MovingExits {
         }
 
         private void paceAll(int act) {
-            for (int row = 0; row < hall.rows; row++) {
-                for (int seat = 0; seat < hall.seats; seat++) {
-                    pace(spotOf(row, seat), act);
+            for (int cell = act * SPOTS; cell < (act + 1) * SPOTS; cell++) {
+                goodExit[cell] = NONE;
+                goodSteps[cell] = NONE;
+                anyExit[cell] = NONE;
+                anySteps[cell] = NONE;
+            }
+            for (int exit = 0; exit < hall.exits; exit++) {
+                int place = placeOf(exit, act);
+                boolean isGood = hall.isGood(place);
+                for (int row = 0; row < hall.rows; row++) {
+                    for (int seat = 0; seat < hall.seats; seat++) {
+                        int spot = spotOf(row, seat);
+                        offer(act * SPOTS + spot, exit, hall.stepsBy(spot, place), isGood);
+                    }
                 }
             }
         }
 
-        /** Of like EXITS the least is nearest. */
-        private void pace(int spot, int act) {
-            int good = NONE;
-            int any = NONE;
-            int fewestGood = NO_WAY_OUT;
-            int fewest = NO_WAY_OUT;
-            for (int exit = 0; exit < hall.exits; exit++) {
-                int place = placeOf(exit, act);
-                int steps = hall.stepsBy(spot, place);
-                if (steps < fewest) {
-                    fewest = steps;
-                    any = exit;
-                }
-                if (steps < fewestGood && hall.isGood(place)) {
-                    fewestGood = steps;
-                    good = exit;
-                }
+        /** An EXIT takes the place of an earlier one only if it is nearer: of like ones the least stays. */
+        private void offer(int cell, int exit, int steps, boolean isGood) {
+            if (anyExit[cell] == NONE || steps < anySteps[cell]) {
+                anyExit[cell] = exit;
+                anySteps[cell] = steps;
             }
-            int cell = act * SPOTS + spot;
-            goodExit[cell] = good;
-            goodSteps[cell] = good == NONE ? NONE : fewestGood;
-            anyExit[cell] = any;
+            if (isGood && (goodExit[cell] == NONE || steps < goodSteps[cell])) {
+                goodExit[cell] = exit;
+                goodSteps[cell] = steps;
+            }
         }
 
         int nearestGood(int spot, int act) {
@@ -1434,15 +1393,6 @@ public final class MovingExits {
         boolean isLawful(int act) {
             int most = farthestSteps(act);
             return most != NONE && most <= hall.law;
-        }
-
-        int firstLawfulOrNot(int from, boolean lawful) {
-            for (int act = from; act < ACTS; act++) {
-                if (isLawful(act) == lawful) {
-                    return act;
-                }
-            }
-            return NONE;
         }
 
         int windyPairs(int act) {
@@ -1774,7 +1724,8 @@ public final class MovingExits {
             Hall hall = acts.hall;
             for (int spot = 0; spot < SPOTS; spot++) {
                 wide[spot] = 0;
-                lookRound(spot, act);
+                distance[spot] = acts.stepsOut(spot, act) - 1;
+                lookRound(spot);
             }
             width = 0;
             waiting = hall.sitters;
@@ -1795,11 +1746,9 @@ public final class MovingExits {
             }
         }
 
-        private void lookRound(int spot, int act) {
+        private void lookRound(int spot) {
             int row = spot / SIDE;
             int seat = spot % SIDE;
-            boolean isThere = acts.hall.hasSeat(row, seat);
-            distance[spot] = isThere ? acts.stepsOut(spot, act) - 1 : NO_WAY_OUT;
             int first = WAYS * spot;
             beside[first] = spotOrNone(row, seat);
             beside[first + 1] = spotOrNone(row - 1, seat);

@@ -1058,7 +1058,7 @@ public final class MovingExits {
             System.arraycopy(other.wide, 0, wide, 0, MOST_EXITS);
             System.arraycopy(other.kingFrom, 0, kingFrom, 0, MOST_EXITS);
             System.arraycopy(other.kingTo, 0, kingTo, 0, MOST_EXITS);
-            changes.copyFrom(other.changes);
+            changes.keep(other.changes);
         }
 
         boolean isTold() {
@@ -1189,7 +1189,7 @@ public final class MovingExits {
             size++;
         }
 
-        void copyFrom(Changes other) {
+        void keep(Changes other) {
             size = other.size;
             System.arraycopy(other.kind, 0, kind, 0, MOST_CHANGES);
             System.arraycopy(other.which, 0, which, 0, MOST_CHANGES);

@@ -48,6 +48,9 @@ public final class SlotsTest {
         a.row(0, 0, 1, 2);
         a.x.row(0, 0, 2);
         Asked.due("all 0 again", a.x.seen(0), act(0));
+        a.row(0, 2, 1, 1, 1);
+        a.x.row(0, 2, 3);
+        Asked.due("three of 0", a.x.fell(0), act(0) | act(2));
     }
 
     private static long act(int first) {

@@ -1204,10 +1204,8 @@ public final class MovingExits {
         private final int[] placeIn = new int[ACTS * MOST_EXITS];
         // Of each ACT and SEAT, found when an ACT is first asked for: most calls ask for many SEATS.
         private final boolean[] isPaced = new boolean[ACTS];
-        private final int[] goodExit = new int[ACTS * SPOTS];
         private final int[] goodSteps = new int[ACTS * SPOTS];
-        private final int[] anyExit = new int[ACTS * SPOTS];
-        private final int[] anySteps = new int[ACTS * SPOTS];
+        private final int[] nearestBehind = new int[ACTS * SPOTS];
 
         Acts(Hall played) {
             hall = played;
@@ -1322,38 +1320,27 @@ public final class MovingExits {
         }
 
         private void paceAll(int act) {
-            for (int cell = act * SPOTS; cell < (act + 1) * SPOTS; cell++) {
-                goodExit[cell] = NONE;
-                goodSteps[cell] = NONE;
-                anyExit[cell] = NONE;
-                anySteps[cell] = NONE;
-            }
-            for (int exit = 0; exit < hall.exits; exit++) {
-                int place = placeOf(exit, act);
-                boolean isGood = hall.isGood(place);
-                for (int row = 0; row < hall.rows; row++) {
-                    for (int seat = 0; seat < hall.seats; seat++) {
-                        int spot = spotOf(row, seat);
-                        offer(act * SPOTS + spot, exit, hall.stepsBy(spot, place), isGood);
+            for (int row = 0; row < hall.rows; row++) {
+                for (int seat = 0; seat < hall.seats; seat++) {
+                    int spot = spotOf(row, seat);
+                    int fewestGood = NO_WAY_OUT;
+                    int fewest = NO_WAY_OUT;
+                    int behind = NONE;
+                    for (int exit = 0; exit < hall.exits; exit++) {
+                        int place = placeOf(exit, act);
+                        int steps = hall.stepsBy(spot, place);
+                        if (steps < fewest) {
+                            fewest = steps;
+                            behind = behindOf(exit, act);
+                        }
+                        if (hall.isGood(place)) {
+                            fewestGood = Math.min(fewestGood, steps);
+                        }
                     }
+                    goodSteps[act * SPOTS + spot] = fewestGood == NO_WAY_OUT ? NONE : fewestGood;
+                    nearestBehind[act * SPOTS + spot] = behind;
                 }
             }
-        }
-
-        /** An EXIT takes the place of an earlier one only if it is nearer: of like ones the least stays. */
-        private void offer(int cell, int exit, int steps, boolean isGood) {
-            if (anyExit[cell] == NONE || steps < anySteps[cell]) {
-                anyExit[cell] = exit;
-                anySteps[cell] = steps;
-            }
-            if (isGood && (goodExit[cell] == NONE || steps < goodSteps[cell])) {
-                goodExit[cell] = exit;
-                goodSteps[cell] = steps;
-            }
-        }
-
-        int nearestGood(int spot, int act) {
-            return goodExit[paced(spot, act)];
         }
 
         int stepsOut(int spot, int act) {
@@ -1361,8 +1348,18 @@ public final class MovingExits {
         }
 
         int fallsTo(int spot, int act) {
-            int exit = anyExit[paced(spot, act)];
-            return exit == NONE ? NONE : behindOf(exit, act);
+            return nearestBehind[paced(spot, act)];
+        }
+
+        int nearestGood(int spot, int act) {
+            int fewest = stepsOut(spot, act);
+            for (int exit = 0; exit < hall.exits; exit++) {
+                int place = placeOf(exit, act);
+                if (hall.isGood(place) && hall.stepsBy(spot, place) == fewest) {
+                    return exit;
+                }
+            }
+            return NONE;
         }
 
         int bestSeat(int act) {
@@ -1669,9 +1666,8 @@ public final class MovingExits {
         // Twice a cell is its coming in, and 1 more its going out: a taken SEAT lets none from in to out.
         private final int[] parent = new int[2 * CELLS];
         private final int[] stack = new int[2 * CELLS];
-        // The search that reached it last.
-        private final int[] reached = new int[2 * CELLS];
-        private int search;
+        // SEATS reached in the search, as bits: twice a MINUTE for coming in, and 1 more for going out.
+        private final long[] reached = new long[2 * MOST_MINUTES];
         private int stacked;
         private int minutes;
         private int gone;
@@ -1772,7 +1768,9 @@ public final class MovingExits {
         }
 
         private boolean sendOne() {
-            search++;
+            for (int side = 0; side < 2 * MOST_MINUTES; side++) {
+                reached[side] = 0;
+            }
             stacked = 0;
             for (int spot = 0; spot < SPOTS; spot++) {
                 if ((waiting & spotBit(spot)) != 0 && canStillEnd(0, spot)) {
@@ -1804,8 +1802,13 @@ public final class MovingExits {
         }
 
         private void reach(int node, int from) {
-            if (node >= 0 && node < 2 * CELLS && reached[node] != search && stacked < 2 * CELLS) {
-                reached[node] = search;
+            if (node < 0 || node >= 2 * CELLS || stacked >= 2 * CELLS) {
+                return;
+            }
+            int side = node / 2 / SPOTS * 2 + node % 2;
+            long here = spotBit(node / 2 % SPOTS);
+            if ((reached[side] & here) == 0) {
+                reached[side] |= here;
                 parent[node] = from;
                 stack[stacked] = node;
                 stacked++;

@@ -1,8 +1,20 @@
 import java.lang.management.ManagementFactory;
+import java.lang.reflect.Array;
+import java.lang.reflect.Field;
+import java.lang.reflect.Modifier;
+import java.util.ArrayDeque;
+import java.util.Collections;
+import java.util.Deque;
+import java.util.IdentityHashMap;
+import java.util.Set;
 
 /** All calls of a run live in one room: an object makes its rows when it is made, and nothing after that. */
 public final class RoomTest {
-    public static void main(String[] args) {
+    private static final int CALLS = 512;
+    private static final int ROOM_OF_OBJECTS = 600000;
+    private static final int ROOM_OF_ELEMENTS = 7300000;
+
+    public static void main(String[] args) throws IllegalAccessException {
         com.sun.management.ThreadMXBean meter = (com.sun.management.ThreadMXBean) ManagementFactory.getThreadMXBean();
         long thread = Thread.currentThread().getId();
         everyCall(new MovingExits());
@@ -15,9 +27,47 @@ public final class RoomTest {
         }
         long after = meter.getThreadAllocatedBytes(thread) - beforeToo - made;
         System.out.println(made + " bytes for an object, " + after + " for its calls");
-        Asked.due("an object is small", made < 150000 ? 1 : 0, 1);
+        fitsIfEachCallMadeOne();
         Asked.due("its calls make nothing", after <= 4 * (beforeToo - before) + 256 ? 1 : 0, 1);
         Asked.close();
+    }
+
+    private static void fitsIfEachCallMadeOne() throws IllegalAccessException {
+        Set<Object> objects = Collections.newSetFromMap(new IdentityHashMap<>());
+        Deque<Object> found = new ArrayDeque<>();
+        found.add(new MovingExits());
+        int elements = 0;
+        while (!found.isEmpty()) {
+            Object object = found.poll();
+            if (objects.add(object)) {
+                elements += object.getClass().isArray() ? elementsOf(object, found) : fieldsOf(object, found);
+            }
+        }
+        System.out.println(objects.size() + " objects with " + elements + " fields and elements");
+        Asked.due("objects fit", objects.size() * CALLS <= ROOM_OF_OBJECTS ? 1 : 0, 1);
+        Asked.due("elements fit", elements * CALLS <= ROOM_OF_ELEMENTS ? 1 : 0, 1);
+    }
+
+    private static int elementsOf(Object array, Deque<Object> found) {
+        int length = Array.getLength(array);
+        for (int i = 0; i < length && !array.getClass().getComponentType().isPrimitive(); i++) {
+            found.add(Array.get(array, i));
+        }
+        return length;
+    }
+
+    private static int fieldsOf(Object object, Deque<Object> found) throws IllegalAccessException {
+        int fields = 0;
+        for (Field field : object.getClass().getDeclaredFields()) {
+            if (!Modifier.isStatic(field.getModifiers())) {
+                fields++;
+                if (!field.getType().isPrimitive()) {
+                    field.setAccessible(true);
+                    found.add(field.get(object));
+                }
+            }
+        }
+        return fields;
     }
 
     private static void everyCall(MovingExits x) {

@@ -6,6 +6,7 @@ public final class ActsTest {
         pushes();
         noSuchThen();
         doubled();
+        neverAgain();
         none();
         Asked.close();
     }
@@ -129,6 +130,23 @@ public final class ActsTest {
         Asked.due("sees(0)", a.x.sees(0), 7);
         Asked.due("sees(1)", a.x.sees(1), 6);
         Asked.due("next(1, 1, 1)", a.x.next(1, 1, 1), -1);
+    }
+
+    private static void neverAgain() {
+        Asked a = new Asked();
+        // Rings of four and of five, in which each king's stay puts off when all come round.
+        a.tell("hall rows 3 seats 3 law 1;place 0 0 to 0 then 1;place 0 1 to 0 then 2;place 0 2 to 0 then 3;"
+            + "place 1 0 to 0 then 0;place 1 1 to 0 then 5;place 1 2 to 0 then 6;place 2 0 to 0 then 7;place 2 1 to 0 then 8;"
+            + "place 2 2 to 0 then 4;exit 0 wide 1 king 28 to 30;exit 7 wide 1 king 45 to 46;exit 1 wide 1 king 16 to 17;"
+            + "exit 5 wide 1 king 11 to 13;");
+        Asked.due("again(), never", a.x.again(), -1);
+        Asked.due("round(), never", a.x.round(), -1);
+        a.x.king(0, -1, -1);
+        a.x.king(1, -1, -1);
+        a.x.king(2, -1, -1);
+        a.x.king(3, -1, -1);
+        Asked.due("again() without king's", a.x.again(), 20);
+        Asked.due("round() without king's", a.x.round(), 20);
     }
 
     private static void none() {

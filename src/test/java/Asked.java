@@ -12,6 +12,19 @@ final class Asked {
         }
     }
 
+    /** Two States: the first line that is not the same is told. */
+    static void same(String what, String got, String want) {
+        String[] gotLines = got.split("\n");
+        String[] wantLines = want.split("\n");
+        due(what + ": lines", gotLines.length, wantLines.length);
+        for (int i = 0; i < gotLines.length && i < wantLines.length; i++) {
+            if (!gotLines[i].equals(wantLines[i])) {
+                due(what + ": " + gotLines[i] + ", not so, " + wantLines[i], 1, 0);
+                return;
+            }
+        }
+    }
+
     static void close() {
         System.out.println(answers + " answers, " + wrong + " wrong");
         if (wrong != 0 || answers == 0) {

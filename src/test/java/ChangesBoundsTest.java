@@ -9,6 +9,7 @@ public final class ChangesBoundsTest {
         undo();
         images();
         back();
+        imageOfChanges();
         imageOfForty();
         imageOfAllThatThereCanBe();
         Asked.close();
@@ -209,6 +210,32 @@ public final class ChangesBoundsTest {
         Asked.due("count(7)", x.count(7), 0);
         Asked.due("kept without a HALL", x.kept(0), -2);
         Asked.due("undo() without a HALL", x.undo(), -2);
+    }
+
+    private static void imageOfChanges() {
+        MovingExits x = Starts.of(Halls.RING.replace("exit 1 wide 2", "exit 1 wide 2 king 7 to 9"));
+        Asked.due("king(1, 20, 30)", x.king(1, 20, 30), 0);
+        Asked.due("screw(2, 5)", x.screw(2, 5), 0);
+        Asked.due("seats(1, 2, 0)", x.seats(1, 2, 0), 1);
+        Asked.due("image(1)", x.image(1), 0);
+        for (int left = 2; left >= 0; left--) {
+            Asked.due("undo()", x.undo(), left);
+        }
+        // Other changes, of other kinds, in the place of those.
+        Asked.due("seats(0, 0, 1)", x.seats(0, 0, 1), 0);
+        Asked.due("king(0, 1, 2)", x.king(0, 1, 2), 0);
+        Asked.due("screw(0, 3)", x.screw(0, 3), 1);
+        Asked.due("back(1)", x.back(1), 0);
+        Asked.due("undo() of seats", x.undo(), 2);
+        Asked.due("sits(1, 2)", x.sits(1, 2), 1);
+        Asked.due("sits(0, 0)", x.sits(0, 0), 0);
+        Asked.due("undo() of screw", x.undo(), 1);
+        Asked.due("THEN of PLACE 2", x.place(2, 3), 0);
+        Asked.due("THEN of PLACE 0", x.place(0, 3), 1);
+        Asked.due("undo() of king", x.undo(), 0);
+        Asked.due("from", x.exit(1, 2), 7);
+        Asked.due("to", x.exit(1, 3), 9);
+        Asked.due("the other one is no king's", x.exit(0, 2), -1);
     }
 
     private static void imageOfForty() {

@@ -209,6 +209,9 @@ public final class CluesBoundsTest {
     private static void sure() {
         Asked.due("sure in one ACT", with(LAST_ACT, 0, 0, 0, 0).sure(3, 0), 1);
         Asked.due("sure in 59 ACTS", with(LAST_ACT, 0, 0, 0, 1).sure(3, 0), 0);
+        String first = LAST_ACT.replace(" king 0 to 58", "");
+        Asked.due("sure in the first ACT", with(first, 0, 0, 0, 1).sure(3, 0), 0);
+        Asked.due("unlike ones, but for the first ACT", with(first, 0).sure(3, 0), -1);
         Asked.due("unlike ones in 60 ACTS", with(LAST_ACT, 0).sure(3, 0), -1);
         Asked.due("no such ACTS", with(LAST_ACT, 0, 0, 0, 4).sure(3, 0), -1);
         Asked.due("sure in all ACTS", with(LAST_ACT.replace("58", "59"), 0).sure(3, 0), 0);

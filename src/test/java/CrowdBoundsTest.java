@@ -17,6 +17,7 @@ public final class CrowdBoundsTest {
         drawsOfOneToSeven();
         rowByRow();
         oneMoreSeed();
+        eachThatIsNotGood();
         noExits();
         nobodyAndAll();
         Asked.close();
@@ -90,6 +91,19 @@ public final class CrowdBoundsTest {
             Asked.due("lucky(0, " + n + ", 0)", x.lucky(0, n, 0), ofNothing[n - 1]);
             // Those behind the greatest seed are drawn from as well.
             Asked.due("lucky(GREATEST, " + n + ", 0)", x.lucky(GREATEST, n, 0), ofTheGreatest[n - 1]);
+        }
+    }
+
+    private static void eachThatIsNotGood() {
+        // Of two, seed 2 draws 0 1: one comes to each.
+        for (int one = 0; one < 5; one++) {
+            for (int other = 0; other < 5; other++) {
+                MovingExits x = Starts.of("hall rows 1 seats 2 law 0;place 0 0 to " + one + " then 0;place 0 1 to " + other
+                    + " then 1;exit 0 wide 1;exit 1 wide 1;sits 0 0;sits 0 1;");
+                boolean good = one % 4 == 0 && other % 4 == 0;
+                Asked.due("lucky by " + one + " and " + other, x.lucky(2, 1, 0), good ? 1 : 0);
+                Asked.due("drawn to " + one, x.drawn(2, 0, one), one == other ? 2 : 1);
+            }
         }
     }
 

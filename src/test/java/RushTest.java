@@ -5,6 +5,7 @@ public final class RushTest {
         oneRow();
         wideExits();
         turnedAside();
+        turnedAsideInTheCorner();
         nobody();
         fullHall();
         Asked.close();
@@ -86,6 +87,14 @@ public final class RushTest {
         a.tell("hall rows 2 seats 3 law 1;place 0 0 to 0 then 8;place 0 2 to 0 then 8;exit 0 wide 1;exit 1 wide 1;"
             + "sits 0 1;sits 1 2;");
         outs(a.x, 0, 0, 0, 2);
+    }
+
+    private static void turnedAsideInTheCorner() {
+        Asked a = new Asked();
+        // One in the first MINUTE and two in each other is the most there can be: who sits in the corner must make way for it.
+        a.tell("hall rows 3 seats 6 law 0;place 2 0 to 0 then 8;exit 0 wide 1;place 1 1 to 0 then 8;exit 1 wide 1;"
+            + "sits 0 0;sits 0 1;sits 0 3;sits 0 4;sits 0 5;sits 1 0;sits 1 2;sits 1 4;sits 1 5;sits 2 0;sits 2 1;sits 2 4;sits 2 5;");
+        outs(a.x, 0, 0, 1, 3, 5, 7, 9, 11, 13, 13);
     }
 
     private static void nobody() {

@@ -199,6 +199,14 @@ public final class TextBoundsTest {
         refused("ha ll rows 1 seats 1 law 1;", 1, 0);
         refused("hall rows 1 sea\nts 1 law 1;", 1, 12);
         refused(HALL + "sits 00;", 1, HALL.length() + 7);
+        for (char letter = 'a'; letter <= 'z'; letter++) {
+            refused("hall" + letter + " rows 1 seats 1 law 1;", 1, 0);
+            refused(letter + "hall rows 1 seats 1 law 1;", 1, 0);
+            refused(HALL + "sits" + letter + "0 0;", 1, HALL.length());
+        }
+        for (char digit = '0'; digit <= '9'; digit++) {
+            refused("hall rows 1" + digit + " seats 1 law 1;", 2, 10);
+        }
         taken("hall rows 1 seats 1 law 12;");
         refused("hall rows 1 seats 1 law 1 2;", 1, 26);
     }
@@ -274,6 +282,13 @@ public final class TextBoundsTest {
         none.tell("");
         Asked.due("no HALL behind an empty text", none.x.round(), -2);
         Asked.due("no changes without a HALL", none.x.count(6), 0);
+        none.x = Starts.ring();
+        none.tell(Starts.FULL);
+        none.tell(Halls.RING);
+        none.tell("");
+        for (int what = 0; what <= 8; what++) {
+            Asked.due("count(" + what + ") where two HALLs were", none.x.count(what), 0);
+        }
         none.x = Starts.ring();
         none.tell(" \n\n ");
         Asked.due("no HALL behind blanks", none.x.count(7), 0);

@@ -17,7 +17,7 @@ public final class CallsTest {
 
     /** The dearest calls, each all the time. */
     private static void asked() {
-        // 33 calls tell the text: 31 of them feed, with end(0) ahead of them and what tell() asks behind.
+        // Telling the text takes end(0), what it has to be fed, end(), hall() and two fault().
         int left = CALLS - ((Starts.FULL.length() + 19) / 20 + 5);
         Bounds.Call[] dear = {x -> x.quickest(60), x -> x.wider(0, 20, 0), x -> x.stands(7), MovingExits::needs, x -> x.worth(60),
             x -> x.danger(0), MovingExits::again, x -> x.lucky(0, 20, 59), x -> x.claque(6, 59)};

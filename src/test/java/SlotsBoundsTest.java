@@ -204,7 +204,7 @@ public final class SlotsBoundsTest {
     }
 
     private static void pasteOntoItself() {
-        // Six numbers are three PLACES of EXIT 0; by turns onto themselves, in both ways, as they were.
+        // Six numbers put onto themselves, forward and back: each is what it was ahead of the call.
         for (int from = 0; from <= 6; from++) {
             for (int to = 0; to <= 6; to++) {
                 for (int n = 0; n <= 7; n++) {
@@ -217,7 +217,6 @@ public final class SlotsBoundsTest {
                     if (fits) {
                         System.arraycopy(numbers.clone(), from, numbers, to, n);
                     }
-                    a.row(1, 0, numbers);
                     // One by one, each behind EXIT 0: ACTS in which it is at PLACE 0 .. 5 are unlike.
                     for (int i = 0; i < 6; i++) {
                         a.row(2, 0, 0, 0);

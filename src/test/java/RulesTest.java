@@ -1,4 +1,6 @@
 import java.io.IOException;
+import java.lang.reflect.Field;
+import java.lang.reflect.Modifier;
 import java.nio.file.Files;
 import java.nio.file.Path;
 import java.util.ArrayList;
@@ -22,6 +24,8 @@ public final class RulesTest {
         List<String> lines = Files.readAllLines(Path.of("src/main/java/MovingExits.java"));
         words(lines);
         methods(lines);
+        loops(lines);
+        classesInside();
         Asked.close();
     }
 
@@ -81,13 +85,53 @@ public final class RulesTest {
         }
     }
 
+    /** Rule 9: a counter against a bound stands in the loop's own line. */
+    private static void loops(List<String> lines) {
+        Pattern counted = Pattern.compile(
+            "^ +for \\(int (\\w+) = [^;]+; \\1(?: \\+ \\d)? (?:<|<=|>=) [^;]+; (?:\\1\\+\\+|\\1 [+-]= \\d)\\) \\{$");
+        for (String line : lines) {
+            String code = code(line);
+            if (code.matches(".*\\b(for|while|do)\\b.*")) {
+                boolean ends = counted.matcher(code).matches() || code.matches("^ +while \\(position < MOST_BYTES && .*");
+                Asked.due("an end that can be seen: " + line.trim(), ends ? 1 : 0, 1);
+            }
+        }
+    }
+
+    /** Rules 2, 3, 5 and 11, as far as fields tell. */
+    private static void classesInside() {
+        List<Class<?>> all = new ArrayList<>(List.of(MovingExits.class.getDeclaredClasses()));
+        for (Class<?> inside : all) {
+            Asked.due(inside + " is static", Modifier.isStatic(inside.getModifiers()) ? 1 : 0, 1);
+            Asked.due(inside + " has none inside", inside.getDeclaredClasses().length, 0);
+        }
+        all.add(MovingExits.class);
+        for (Class<?> one : all) {
+            int fields = 0;
+            for (Field field : one.getDeclaredFields()) {
+                Class<?> type = field.getType();
+                if (Modifier.isStatic(field.getModifiers())) {
+                    Asked.due(field + " is final", Modifier.isFinal(field.getModifiers()) ? 1 : 0, 1);
+                    Asked.due(field + " is a number", type == int.class || type == long.class ? 1 : 0, 1);
+                } else {
+                    fields++;
+                    Class<?> of = type.isArray() ? type.getComponentType() : type;
+                    Asked.due(field + " is of a plain type", of.isPrimitive() || all.contains(of) ? 1 : 0, 1);
+                }
+            }
+            Asked.due(one + " has " + fields + " fields", fields <= 20 ? 1 : 0, 1);
+        }
+    }
+
     /** The longest chain of calls; 99 for one that comes back to itself. */
     private static int depth(String name, Map<String, Set<String>> calls, int at) {
         int most = at;
         for (String called : at > 20 ? Set.<String>of() : calls.get(name)) {
             if (calls.containsKey(called)) {
                 most = Math.max(most, depth(called, calls, at + 1));
-            } else if (!WORDS.contains(called) && !LIBRARY.contains(called)) {
+            } else if (LIBRARY.contains(called)) {
+                most = Math.max(most, at + 1);
+            } else if (!WORDS.contains(called)) {
                 Asked.due(name + " calls " + called + ", which is in no library", 1, 0);
             }
         }
